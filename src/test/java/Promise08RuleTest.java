@@ -136,6 +136,15 @@ public final class Promise08RuleTest {
         check.same("NULL does not fail", loom.map(1, -1), -1);
         check.same("rule 6: NULL", loom.map(2, 4), -1);
         check.same("the name before rule 6", loom.map(2, 0), 3);
+
+        BeanLoom zero = new BeanLoom();
+        zero.enumeration(0x0100, 2);
+        zero.enumeration(0x000102, 3);
+        zero.method(15, 16);
+        zero.rule(0, 5, 1, 0);
+        zero.build();
+        check.same("the name 0", zero.map(0, 0), 2);
+        check.same("rule 5 to the name 0", zero.map(0, 1), 2);
     }
 
     private static void inverseOfBeans(Check check) {

@@ -13,7 +13,10 @@ public final class Promise13MapTest {
         limits();
         longChain();
         overTheTable();
+        namedFunctions();
         enumsInBeans();
+        afterFailing();
+        builtTwice();
         CHECK.end();
     }
 
@@ -338,6 +341,90 @@ public final class Promise13MapTest {
         CHECK.same("nothing is made of what is between", loom.count(3), 7);
     }
 
+    private static void namedFunctions() {
+        BeanLoom loom = new BeanLoom();
+        int from = loom.bean();
+        int to = loom.bean();
+        loom.property(from, 1, 3);
+        loom.property(to, 1, 4);
+        loom.property(to, 2, 4);
+        loom.property(to, 3, 11);
+        loom.function(3, 4, 10, 0);
+        loom.function(3, 11, 100, 0);
+        loom.method(from, to);
+        loom.rule(0, 0, 2, 2);
+        loom.rule(0, 0, 3, 2);
+        loom.rule(0, 4, 2, 0);
+        loom.build();
+        int bean = loom.make(from, 0);
+        loom.put(bean, 0, 7);
+        int got = loom.map(0, bean);
+        CHECK.same("NAMED: only where it is told", loom.get(got, 0), 7);
+        CHECK.same("BY", loom.get(got, 1), 70);
+        CHECK.same("not NAMED: before the table", loom.get((int) loom.get(got, 2), 0), 700);
+    }
+
+    /** A map() that fails deep inside leaves nothing to the next one. */
+    private static void afterFailing() {
+        BeanLoom loom = new BeanLoom();
+        int from = loom.bean();
+        int to = loom.bean();
+        int texts = loom.list(14);
+        int boxes = loom.list(10);
+        loom.property(from, 1, from);
+        loom.property(from, 2, texts);
+        loom.property(to, 1, to);
+        loom.property(to, 2, boxes);
+        loom.method(from, to);
+        loom.build();
+        int list = loom.make(texts, 0);
+        loom.put(list, 0, loom.make(14, '5'));
+        loom.put(list, 0, loom.make(14, 'x'));
+        loom.put(list, 0, loom.get(list, 0));
+        int inner = loom.make(from, 0);
+        int outer = loom.make(from, 0);
+        loom.put(inner, 1, list);
+        loom.put(outer, 0, inner);
+        CHECK.unsupported("deep inside", () -> loom.map(0, outer));
+        CHECK.same("nothing is left", loom.count(3), 5);
+        CHECK.same("NULL still becomes NULL", loom.map(0, -1), -1);
+        CHECK.same("nor made now", loom.count(3), 5);
+        loom.put(inner, 1, -1);
+        CHECK.same("the same beans, mended", loom.map(0, outer), 5);
+        CHECK.same("the inner one", loom.get(5, 0), 6);
+        CHECK.same("its NULL", loom.get(6, 1), -1);
+        CHECK.same("two beans", loom.count(3), 7);
+    }
+
+    /** What a build() with a fault has planned counts for nothing. */
+    private static void builtTwice() {
+        BeanLoom mended = new BeanLoom();
+        mended.bean();
+        mended.bean();
+        mended.property(15, 1, 3);
+        mended.property(15, 2, 15);
+        mended.property(16, 1, 3);
+        mended.property(16, 3, 3);
+        mended.property(16, 4, 3);
+        mended.function(4, 3, 1, 1);
+        mended.method(15, 16);
+        mended.rule(0, 0, 3, 2 << 8 | 3);
+        CHECK.diagnosis("nothing says 4", mended, 5, 0, 2);
+        mended.rule(0, 2, 1, 0);
+        CHECK.diagnosis("nothing says 4 still", mended, 5, 0, 2);
+        mended.rule(0, 3, 3, 44);
+        mended.rule(0, 1, 4, 6);
+        CHECK.same("mended", mended.build(), 1);
+        int bean = mended.make(15, 0);
+        mended.put(bean, 0, 9);
+        int got = mended.map(0, bean);
+        CHECK.same("IGNORED now", mended.get(got, 0), 0);
+        CHECK.same("DEFAULT now", mended.get(got, 1), 45);
+        CHECK.same("CONSTANT now", mended.get(got, 2), 7);
+        mended.put(bean, 1, bean);
+        CHECK.same("the PATH as ever", mended.get(mended.map(0, bean), 1), 9);
+    }
+
     private static void enumsInBeans() {
         BeanLoom loom = new BeanLoom();
         int from = loom.bean();
@@ -385,7 +472,7 @@ public final class Promise13MapTest {
         CHECK.same("NULL of an enum", loom.get(got, 0), -1);
         CHECK.same("NULL of a text", loom.get(got, 1), -1);
         CHECK.same("NULL to a text", loom.get(got, 3), -1);
-        String[] wrong = {"n02", "n", "2", "n2 ", "N2", "", "n63"};
+        String[] wrong = {"n02", "n", "2", "n2 ", "N2", "", "n63", "n1", "n3", "n8", "n11", "n20", "n1 ", "n010"};
         for (String word : wrong) {
             long bytes = 0;
             for (int i = 0; i < word.length(); i++) {
