@@ -59,6 +59,45 @@ final class Check {
         thrown(what, act, IndexOutOfBoundsException.class);
     }
 
+    void argument(String what, BeanLoom loom, Act act) {
+        refused(what, loom, act, IllegalArgumentException.class);
+    }
+
+    void state(String what, BeanLoom loom, Act act) {
+        refused(what, loom, act, IllegalStateException.class);
+    }
+
+    void unsupported(String what, BeanLoom loom, Act act) {
+        refused(what, loom, act, UnsupportedOperationException.class);
+    }
+
+    void bounds(String what, BeanLoom loom, Act act) {
+        refused(what, loom, act, IndexOutOfBoundsException.class);
+    }
+
+    /** The call throws just this, and all that the loom tells of itself stays as it was. */
+    private void refused(String what, BeanLoom loom, Act act, Class<?> due) {
+        String before = Looms.state(loom);
+        thrown(what, act, due);
+        stays(what, loom, before);
+    }
+
+    /** The call answers false, and all that the loom tells of itself stays as it was. */
+    void notPut(String what, BeanLoom loom, int object, int at, long v) {
+        String before = Looms.state(loom);
+        no(what, loom.put(object, at, v));
+        stays(what, loom, before);
+    }
+
+    private void stays(String what, BeanLoom loom, String before) {
+        looked++;
+        String after = Looms.state(loom);
+        if (!after.equals(before)) {
+            wrong++;
+            System.out.println(what + " changed\n" + before + "\nto\n" + after);
+        }
+    }
+
     private void thrown(String what, Act act, Class<?> due) {
         looked++;
         Class<?> got = null;

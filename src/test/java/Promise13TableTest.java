@@ -132,6 +132,7 @@ public final class Promise13TableTest {
             CHECK.same("NULL to TEXT", loom.get(loom.map(0, object), 0), -1);
         }
         for (long v : values(kind)) {
+            weave(from, 14);
             give(from, v);
             String due = kind == 2 ? String.valueOf((char) v) : kind == 5 ? String.valueOf(v == 1) : String.valueOf(v);
             CHECK.text("of " + v, loom, loom.get(loom.map(0, object), 0), due);

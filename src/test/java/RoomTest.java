@@ -15,7 +15,7 @@ public final class RoomTest {
         BeanLoom loom = dear();
         long made = taken() - start;
         start = taken();
-        for (int call = 0; call < 512; call++) {
+        for (int call = 0; call < 60; call++) {
             try {
                 loom.map(0, 0);
             } catch (UnsupportedOperationException e) {
@@ -31,7 +31,7 @@ public final class RoomTest {
         }
         faulty.rule(15, 7, 0, 99);
         start = taken();
-        for (int call = 0; call < 512; call++) {
+        for (int call = 0; call < 350; call++) {
             try {
                 faulty.build();
             } catch (IllegalArgumentException e) {
@@ -39,10 +39,10 @@ public final class RoomTest {
             }
         }
         long built = taken() - start;
-        System.out.println("bytes for one object and its calls " + made + ", for 512 maps " + mapped
-                + ", for 512 builds " + built);
+        System.out.println("bytes for one object and its calls " + made + ", for 60 maps " + mapped
+                + ", for 350 builds " + built);
         // An exception with its trace takes some hundred bytes; the room's 7.3 million elements are some 58 million.
-        if (made > 2_000_000 || mapped > 1_000_000 || built > 1_000_000) {
+        if (made > 2_000_000 || mapped > 200_000 || built > 1_000_000) {
             System.out.println("that is too much");
             System.exit(1);
         }
