@@ -89,5 +89,29 @@ public final class Edge09BuildTest {
             none.method(18, 17);
         }
         CHECK.diagnosis("none of 16", none, 6, 0, 0);
+        for (int way = 1; way < 16; way++) {
+            eachIsAWay(way);
+        }
+    }
+
+    /** Method 0 maps a bean's part by one method of 16. */
+    private static void eachIsAWay(int way) {
+        BeanLoom loom = new BeanLoom();
+        for (int bean = 0; bean < 5; bean++) {
+            loom.bean();
+        }
+        loom.property(15, 1, 17);
+        loom.property(16, 1, 18);
+        loom.method(15, 16);
+        for (int method = 1; method < 16; method++) {
+            loom.method(method == way ? 17 : 19, 18);
+        }
+        CHECK.same("16 methods", loom.build(), 16);
+        loom.make(15, 0);
+        loom.make(17, 0);
+        loom.put(0, 0, 1);
+        CHECK.same("the bean", loom.map(0, 0), 2);
+        CHECK.same("its part by method " + way, loom.get(2, 0), 3);
+        CHECK.same("of its type", loom.about(3, 0), 18);
     }
 }

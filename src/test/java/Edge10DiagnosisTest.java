@@ -518,6 +518,7 @@ public final class Edge10DiagnosisTest {
         constant.rule(0, 4, 1, 0);
         due("CONSTANT, a BY that does not fit", constant, 0, -1);
         constantBeside();
+        asALong();
 
         BeanLoom otherwise = Looms.pair(14, 3);
         otherwise.function(4, 3, 1, 0);
@@ -540,6 +541,33 @@ public final class Edge10DiagnosisTest {
         by.rule(0, 4, 1, 0);
         by.rule(0, 3, 1, 0);
         due("a DEFAULT beside BY: no function that is not NAMED", by, 6, 0);
+    }
+
+    /** "HOW a LONG comes to the type", not an INT, nor what the PATH has. */
+    private static void asALong() {
+        for (int kind = 1; kind < 4; kind += 2) {
+            BeanLoom exact = Looms.pair(5, 5);
+            exact.rule(0, kind, 1, 5);
+            exact.function(4, 5, 1, 0);
+            exact.function(3, 5, 1, 0);
+            exact.function(10, 5, 1, 0);
+            exact.function(10, 5, 1, 1);
+            due("kind " + kind + ": one just from LONG", exact, 0, -1);
+            BeanLoom two = Looms.pair(5, 5);
+            two.rule(0, kind, 1, 5);
+            two.function(3, 5, 1, 0);
+            two.function(4, 5, 1, 0);
+            two.function(4, 5, 1, 1);
+            due("kind " + kind + ": two just from LONG", two, 7, 0);
+            BeanLoom box = Looms.pair(5, 5);
+            box.rule(0, kind, 1, 5);
+            box.function(11, 5, 1, 0);
+            box.function(3, 5, 1, 0);
+            due("kind " + kind + ": from a LONG's box as from INT", box, 7, 0);
+            BeanLoom none = Looms.pair(5, 12);
+            none.rule(0, kind, 1, 5);
+            due("kind " + kind + ": none to a box of BOOLEAN", none, 6, 0);
+        }
     }
 
     /** A DEFAULT comes as the CONSTANT does, so it can't fail where that goes: it just does nothing. */

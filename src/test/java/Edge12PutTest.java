@@ -211,5 +211,36 @@ public final class Edge12PutTest {
         CHECK.yes("a mapped one too", loom.put(got, 0, 3));
         CHECK.same("just that one", loom.get(0, 0), 2);
         CHECK.same("it is there", loom.get(got, 0), 3);
+        for (int size = 14; size <= 16; size++) {
+            mappedList(size);
+        }
+    }
+
+    /** A list that map() has made has room up to 16 too, and is none with its source. */
+    private static void mappedList(int size) {
+        BeanLoom loom = new BeanLoom();
+        loom.list(10);
+        loom.list(14);
+        loom.bean();
+        loom.bean();
+        loom.property(17, 1, 15);
+        loom.property(18, 1, 16);
+        loom.method(17, 18);
+        loom.build();
+        loom.make(17, 0);
+        loom.make(15, 0);
+        loom.make(10, 5);
+        loom.put(0, 0, 1);
+        for (int i = 0; i < size; i++) {
+            loom.put(1, 0, 2);
+        }
+        int made = (int) loom.get(loom.map(0, 0), 0);
+        for (int i = size; i < 16; i++) {
+            CHECK.yes("room for value " + i, loom.put(made, 0, -1));
+        }
+        CHECK.no("a seventeenth", loom.put(made, 0, -1));
+        CHECK.same("16 values", loom.about(made, 1), 16);
+        CHECK.same("the source has its own", loom.about(1, 1), size);
+        CHECK.no("a value of the source's type", loom.put(made, 0, 2));
     }
 }

@@ -11,6 +11,7 @@ public final class Edge13WaysTest {
         valuesOfLists();
         listsOfEach();
         listsInLists();
+        lastTypes();
         CHECK.end();
     }
 
@@ -151,6 +152,17 @@ public final class Edge13WaysTest {
                 CHECK.same(v + " of " + way[0] + " over " + way[1], mapped(loom, way[0], way[2], given), x * 3 + 1 & 1);
                 CHECK.same("nothing is made of what is between", loom.count(3), 2 + (way[0] > 6 ? 1 : 0)
                         + (way[2] > 6 ? 1 : 0));
+            }
+        }
+        double[] reals = {1e18, -1e18, 4294967296.0, 2147483648.0, 0.9, -0.9, Double.POSITIVE_INFINITY};
+        for (double real : reals) {
+            for (int over = 0; over < 5; over++) {
+                BeanLoom loom = Looms.pair(6, 5);
+                loom.function(over, 5, 1, 0);
+                loom.build();
+                // To all but LONG over INT, so beyond its range its ends, of which the upper one is odd.
+                long due = over == 4 ? (long) real & 1 : (int) real & 1;
+                CHECK.same(real + " over " + over, mapped(loom, 6, 5, Double.doubleToRawLongBits(real)), due);
             }
         }
         int[][] bits = {{5, 12, 4}, {5, 12, 11}, {12, 5, 4}, {12, 5, 10}};
@@ -319,5 +331,41 @@ public final class Edge13WaysTest {
         CHECK.same("with new texts", loom.get(12, 0), 13);
         CHECK.text("2", loom, loom.get(12, 1), "2");
         CHECK.same("no more", loom.count(3), 15);
+    }
+
+    /** Lists, beans and enums that are the last of 40 types go as all others do. */
+    private static void lastTypes() {
+        for (int turn = 0; turn < 2; turn++) {
+            BeanLoom loom = new BeanLoom();
+            loom.bean();
+            loom.bean();
+            Looms.fillTypes(loom, 34);
+            loom.enumeration(Looms.names(1, 2), 2);
+            loom.enumeration(Looms.names(2, 1), 2);
+            loom.bean();
+            loom.bean();
+            int first = loom.list(turn == 0 ? 10 : 36);
+            int last = loom.list(turn == 0 ? 14 : 37);
+            CHECK.same("the last of all", last, 39);
+            loom.property(15, 1, turn == 0 ? last : first);
+            loom.property(16, 1, turn == 0 ? first : last);
+            loom.property(36, 1, 34);
+            loom.property(37, 1, 35);
+            loom.method(15, 16);
+            loom.method(36, 37);
+            loom.method(34, 35);
+            loom.build();
+            int source = loom.make(15, 0);
+            int list = loom.make(turn == 0 ? last : first, 0);
+            int value = turn == 0 ? loom.make(14, '8') : loom.make(36, 0);
+            loom.put(source, 0, list);
+            loom.put(list, 0, value);
+            loom.put(value, 0, 0);
+            int made = (int) loom.get(loom.map(0, source), 0);
+            CHECK.same("its type", loom.about(made, 0), turn == 0 ? first : last);
+            int got = (int) loom.get(made, 0);
+            CHECK.same("its value", loom.get(got, 0), turn == 0 ? 8 : 1);
+            CHECK.same("its value's type", loom.about(got, 0), turn == 0 ? 10 : 37);
+        }
     }
 }
