@@ -5,6 +5,7 @@ public final class Edge06MethodTest {
     public static void main(String[] args) {
         twoBeansOrTwoEnums();
         sixteenAtMost();
+        lastOfFortyTypes();
         refusedWhenBuilt();
         CHECK.end();
     }
@@ -50,6 +51,23 @@ public final class Edge06MethodTest {
         CHECK.same("the last one has the rule", loom.build(), 16);
         CHECK.same("the last one maps", loom.map(15, 0), 0);
         CHECK.argument("no 17th", loom, () -> loom.map(16, 0));
+    }
+
+    /** Of 40 types the last one is 39. */
+    private static void lastOfFortyTypes() {
+        for (int turn = 0; turn < 2; turn++) {
+            BeanLoom loom = new BeanLoom();
+            loom.bean();
+            loom.enumeration(1, 1);
+            Looms.fillTypes(loom, 39);
+            int last = turn == 0 ? loom.bean() : loom.enumeration(1, 1);
+            int other = turn == 0 ? 15 : 16;
+            CHECK.argument("from 40", loom, () -> loom.method(40, other));
+            CHECK.argument("to 40", loom, () -> loom.method(other, 40));
+            CHECK.argument("from 40 to 40", loom, () -> loom.method(40, 40));
+            CHECK.same("from 39", loom.method(last, other), 0);
+            CHECK.same("to 39", loom.method(other, last), 1);
+        }
     }
 
     /** "IllegalStateException if it is built". */

@@ -102,16 +102,27 @@ public final class Edge09BuildTest {
         }
         loom.property(15, 1, 17);
         loom.property(16, 1, 18);
+        loom.property(17, 1, 3);
+        loom.property(17, 2, 3);
+        loom.property(18, 2, 3);
+        loom.property(18, 1, 3);
         loom.method(15, 16);
         for (int method = 1; method < 16; method++) {
             loom.method(method == way ? 17 : 19, 18);
+            loom.rule(method, method == way ? 3 : 1, 1, 50 + method);
+            loom.rule(method, method == way ? 3 : 1, 2, 50 + method);
         }
         CHECK.same("16 methods", loom.build(), 16);
         loom.make(15, 0);
         loom.make(17, 0);
         loom.put(0, 0, 1);
+        loom.put(1, 0, 6);
+        loom.put(1, 1, 7);
         CHECK.same("the bean", loom.map(0, 0), 2);
         CHECK.same("its part by method " + way, loom.get(2, 0), 3);
         CHECK.same("of its type", loom.about(3, 0), 18);
+        CHECK.same("with its values", loom.about(3, 1), 2);
+        CHECK.same("the first by its name", loom.get(3, 0), 7);
+        CHECK.same("the second by its name", loom.get(3, 1), 6);
     }
 }

@@ -33,6 +33,7 @@ public final class Edge11MakeTest {
         BeanLoom last = new BeanLoom();
         Looms.fillTypes(last, 39);
         CHECK.same("type 39", last.list(14), 39);
+        CHECK.argument("type 40", last, () -> last.make(40, 0));
         CHECK.same("an object of the last type", last.make(39, 0), 0);
     }
 

@@ -5,6 +5,7 @@ public final class Edge13GraphTest {
     public static void main(String[] args) {
         takenAgain();
         notByAnotherMethod();
+        lastMethodAndObject();
         notInAnotherMap();
         notOfAnotherSource();
         nullIsNoSource();
@@ -76,6 +77,35 @@ public final class Edge13GraphTest {
         CHECK.same("by method 1 first", loom.map(1, 0), 3);
         CHECK.same("then by method 0", loom.get(3, 0), 4);
         CHECK.same("five objects", loom.count(3), 5);
+    }
+
+    /** Each method has its own bean of each source: also the last method, of the last object that still leaves room. */
+    private static void lastMethodAndObject() {
+        for (int free = 1; free < 4; free++) {
+            BeanLoom loom = new BeanLoom();
+            loom.bean();
+            loom.bean();
+            for (int name = 0; name < 2; name++) {
+                loom.property(15, name, 15);
+                loom.property(16, name, 16);
+            }
+            for (int method = 0; method < 15; method++) {
+                loom.method(16, 15);
+                loom.rule(method, 2, 0, 0);
+                loom.rule(method, 2, 1, 0);
+            }
+            loom.method(15, 16);
+            loom.build();
+            Looms.fillObjects(loom, 399 - free);
+            int source = loom.make(15, 0);
+            loom.put(source, 0, source);
+            loom.put(source, 1, source);
+            int target = loom.map(15, source);
+            CHECK.same("one bean", target, 400 - free);
+            CHECK.same("and no more", loom.count(3), 401 - free);
+            CHECK.same("taken again", loom.get(target, 0), target);
+            CHECK.same("taken again and again", loom.get(target, 1), target);
+        }
     }
 
     /** "in this map()". */
